@@ -3,16 +3,24 @@ final class Checks {
     private final String test;
     private int calls = 0;
     private int wrong = 0;
+    private int sentences = 0;
+    private String about = "";
 
     Checks(String test) {
         this.test = test;
+    }
+
+    /** What follows tests this sentence: where in the document it stands, and its words there. */
+    void sentence(String where, String words) {
+        sentences++;
+        about = where + ", \"" + words + "\": ";
     }
 
     void due(String call, long got, long want) {
         calls++;
         if (got != want) {
             wrong++;
-            System.out.println(test + ": " + call + " answered " + got + ", due is " + want);
+            System.out.println(test + ": " + about + call + " answered " + got + ", due is " + want);
         }
     }
 
@@ -20,7 +28,7 @@ final class Checks {
         calls++;
         if (!got.equals(want)) {
             wrong++;
-            System.out.println(test + ": " + call + " answered '" + got + "', due is '" + want + "'");
+            System.out.println(test + ": " + about + call + " answered '" + got + "', due is '" + want + "'");
         }
     }
 
@@ -29,7 +37,8 @@ final class Checks {
     }
 
     void end() {
-        System.out.println(test + ": " + calls + " answers, " + wrong + " not as due");
+        String of = sentences == 0 ? "" : " to " + sentences + " sentences";
+        System.out.println(test + ": " + calls + " answers" + of + ", " + wrong + " not as due");
         if (wrong != 0) {
             System.exit(1);
         }
@@ -58,6 +67,32 @@ final class Checks {
             type(x, (String) termsAndWeights[i]).set(((Number) termsAndWeights[i + 1]).longValue());
         }
         return x;
+    }
+
+    /**
+     * An object with 600 terms, the first of a, b, .. z, aa, ab, .. wb, each of weight 1, made with
+     * 450 of its 512 calls.
+     */
+    static TypoSuggester withAllTerms() {
+        TypoSuggester x = new TypoSuggester();
+        StringBuilder text = new StringBuilder();
+        for (int i = 0; i < 600; i++) {
+            text.append(numbered(i)).append(' ');
+            if (text.length() > 397 || i == 599) {
+                for (int from = 0; from < text.length(); from += 4) {
+                    x.feed(fourBytes(text.toString(), from));
+                }
+                x.learn(1);
+                text.setLength(0);
+            }
+        }
+        return x;
+    }
+
+    /** Term i of a, b, .. z, aa, ab, .. zz. */
+    static String numbered(int i) {
+        String last = String.valueOf((char) ('a' + i % 26));
+        return i < 26 ? last : (char) ('a' + i / 26 - 1) + last;
     }
 
     /** How many bytes the tape has; it is as before behind this. */
